@@ -1,0 +1,22 @@
+/** Runs every test of the project; ends with exit code 1 if an answer was not as is due. */
+public final class AllTests {
+    private AllTests() {
+    }
+
+    public static void main(String[] arguments) {
+        Check check = new Check();
+        new WorkTests(check).run();
+        new PlayerTests(check).run();
+        new HallAndServiceTests(check).run();
+        new GuestTests(check).run();
+        new BookingTests(check).run();
+        new RehearsalAndOvertimeTests(check).run();
+        new SumTests(check).run();
+        new ModelTests(check).run();
+        new LanguageTests(check).run();
+        System.out.println(check.passes() + " passed, " + check.failures() + " failed");
+        if (check.failures() != 0) {
+            System.exit(1);
+        }
+    }
+}
