@@ -760,10 +760,13 @@ public final class Seasonbook {
     private void castAnew(int service) {
         Service row = planned[service];
         row.dropCasts();
-        int able = freePlayers(service) & ~row.absent;
+        int able = 0;
         for (int player = 0; player < playerCount; player++) {
             // The service itself has no cast now, so that only the others are counted.
             casting.others[player] = countServices(player);
+            if (!hasBit(row.absent, player) && isFreeFor(player, service)) {
+                able |= 1 << player;
+            }
         }
         for (int place = 0; place < row.workCount; place++) {
             int work = row.works[place];
@@ -774,16 +777,6 @@ public final class Seasonbook {
                 }
             }
         }
-    }
-
-    private int freePlayers(int service) {
-        int free = 0;
-        for (int player = 0; player < playerCount; player++) {
-            if (isFreeFor(player, service)) {
-                free |= 1 << player;
-            }
-        }
-        return free;
     }
 
     private int refusers(int work) {
@@ -1199,7 +1192,7 @@ public final class Seasonbook {
             }
         }
 
-        /** Lets a player fill one part or none: states fall, so that a state is reached from those without the player. */
+        /** Lets a player fill one part or none: states fall, so that each is reached from one without the player. */
         private void offer(Player player, int number, int wage) {
             keepOwnKeys(player, number, wage);
             for (int state = stateCount - 1; state > 0; state--) {
@@ -1229,7 +1222,7 @@ public final class Seasonbook {
         }
     }
 
-    /** Finds the order of a rehearsal's works: for each set of works, how little can be waited once these are played. */
+    /** Finds the order of a rehearsal's works: for each set of them, how little can be waited once these are played. */
     private static final class CallOrder {
         private static final int TOO_LONG = 1000000;
 

@@ -12,6 +12,8 @@ public final class AllTests {
         new BookingTests(check).run();
         new RehearsalAndOvertimeTests(check).run();
         new SumTests(check).run();
+        new FullWallTests(check).run();
+        new SoundnessTests(check).run();
         new ModelTests(check).run();
         new LanguageTests(check).run();
         System.out.println(check.passes() + " passed, " + check.failures() + " failed");

@@ -15,6 +15,7 @@ final class BookingTests extends Promises {
         stands();
         castAt();
         castCostsLeast();
+        castAlready();
         castIsFair();
         castIsFirst();
         castIsFirstAcrossInstruments();
@@ -224,6 +225,22 @@ final class BookingTests extends Promises {
         due("own instrument without wage", () -> book.castAt(2, 0, 0), 0);
         book.away(2, 0);
         due("a doubling for each work", () -> book.cost(2), 89 + 200 + 10 + 10);
+    }
+
+    private void castAlready() {
+        begin("26 castAt: who is cast already costs no wage at all");
+        book.addHall(0, 96);
+        book.addPlayer(0, 2, 10);
+        book.addPlayer(1, 0, 11);
+        work(10, 1);
+        work(10, 0, 1);
+        concert(5, 0, 1);
+        due("a doubling is cheaper than another wage", () -> book.book(0), 20);
+        due("by one", () -> book.castAt(0, 1, 0), 0);
+        book.addPlayer(1, 0, 10);
+        concert(10, 0, 1);
+        due("as dear as another wage", () -> book.book(1), 20);
+        due("so the one with fewer services", () -> book.castAt(1, 1, 0), 2);
     }
 
     private void castIsFair() {

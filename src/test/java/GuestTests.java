@@ -6,6 +6,7 @@ final class GuestTests extends Promises {
 
     @Override
     void run() {
+        cancelAmongOthers();
         addGuest();
         elsewhere();
         engage();
@@ -138,6 +139,28 @@ final class GuestTests extends Promises {
         due("booked without any work", () -> book.isBooked(1), true);
         due("at no cost", () -> book.cost(1), 0);
         due("sound", () -> book.isSound(), true);
+    }
+
+    private void cancelAmongOthers() {
+        begin("19 cancelGuest: the works around what is left out");
+        book.addHall(0, 96);
+        for (int player = 0; player < 4; player++) {
+            book.addPlayer(player, 0, 10 + player);
+        }
+        work(10, 1);
+        soloWork(10, 1, 1);
+        work(10, 0, 0, 1);
+        soloWork(10, 0, 0, 0, 1);
+        concert(5, 0, 1, 2, 3);
+        book.addGuest(100, 2 | 8);
+        book.engage(0, 0);
+        book.book(0);
+        book.cancelGuest(0);
+        due("the first work's player stays booked", () -> book.services(0), 1);
+        due("the second work's own one does not", () -> book.services(1), 0);
+        due("the third work's does", () -> book.services(2), 1);
+        due("the last one's does not", () -> book.services(3), 0);
+        due("two are paid", () -> book.cost(0), 22);
     }
 
     private void cancelForAnother() {

@@ -242,7 +242,13 @@ final class HallAndServiceTests extends Promises {
         book.setSeries(6, 2);
         due("100 days from one of it", () -> book.add(6, 1), 1);
         due("a work not in the others", () -> book.add(6, 0), 2);
+        work(10);
+        concert(300);
+        book.setSeries(7, 2);
+        due("a work that is in none", () -> book.add(7, 2), 1);
+        due("a work of 50 days later", () -> book.add(7, 0), UNSUPPORTED);
+        due("a work of both", () -> book.add(7, 1), UNSUPPORTED);
         service('c', 150, 70, 10, 0, 1);
-        due("on the same day", () -> book.setSeries(7, 2), UNSUPPORTED);
+        due("on the same day", () -> book.setSeries(8, 2), UNSUPPORTED);
     }
 }

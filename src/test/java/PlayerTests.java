@@ -92,6 +92,9 @@ final class PlayerTests extends Promises {
         due("refused behind a booking", () -> book.refuse(0, 1, true), false);
         due("stays sound", () -> book.isSound(), true);
         due("the cast stays", () -> book.castAt(0, 1, 0), 0);
+        book.refuse(1, 1, true);
+        concert(30, 1);
+        due("both refuse it", () -> book.book(1), UNSUPPORTED);
     }
 
     private void freeOnTheDay() {
