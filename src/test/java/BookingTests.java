@@ -241,6 +241,15 @@ final class BookingTests extends Promises {
         concert(10, 0, 1);
         due("as dear as another wage", () -> book.book(1), 20);
         due("so the one with fewer services", () -> book.castAt(1, 1, 0), 2);
+        concert(15, 0, 1);
+        book.away(1, 2);
+        book.book(2);
+        due("as dear, with fewer services", () -> book.castAt(2, 1, 0), 2);
+        book.unbook(2);
+        book.unbook(1);
+        book.unbook(0);
+        book.book(0);
+        due("as dear, with as many: the first", () -> book.castAt(0, 1, 0), 0);
     }
 
     private void castIsFair() {

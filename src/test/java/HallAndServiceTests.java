@@ -54,6 +54,15 @@ final class HallAndServiceTests extends Promises {
         due("a service in another one", () -> book.give(1, 31, true), false);
         due("day 0", () -> book.give(1, 0, true), false);
         due("day 0 again", () -> book.give(1, 0, false), true);
+        book.addHall(0, 96);
+        for (int day = 0; day < 400; day++) {
+            int told = day;
+            due("each day is its own, " + day, () -> book.give(2, told, told % 3 != 1), false);
+        }
+        for (int day = 0; day < 400; day++) {
+            int told = day;
+            due("each day as was told, " + day, () -> book.give(2, told, false), told % 3 != 1);
+        }
     }
 
     private void addService() {

@@ -45,6 +45,7 @@ final class SoundnessTests extends Promises {
     private void brokenCasts() {
         long cast = longOf(0);
         castBecomes("one player for two parts", 0, cast & ~(15L << 32) | cast >> 4 & 15L << 32);
+        castBecomes("another one for two parts", 0, cast & ~(15L << 36) | cast << 4 & 15L << 36);
         castBecomes("who cannot play it", 0, cast & ~(15L << 28));
         castBecomes("none of the players", 0, cast | 15L << 28);
         castBecomes("none of the players, the next number", 0, cast | 3L << 28);
