@@ -27,9 +27,7 @@ final class ModelTests extends Promises {
     @Override
     void run() {
         for (int run = 0; run < RUNS; run++) {
-            begin("run " + run + " against PlainWall");
-            seed = 977L * run + 5;
-            wall = new PlainWall();
+            startOver("run " + run, 977L * run + 5);
             fill(run);
             for (int call = 0; call < CALLS; call++) {
                 Method method = pick();
@@ -37,6 +35,65 @@ final class ModelTests extends Promises {
             }
             lookAtAll();
         }
+        for (int run = 0; run < 60; run++) {
+            rehearse(run);
+            crowd(run);
+        }
+    }
+
+    /** One player for each instrument, so that the players of each work are as its parts are. */
+    private void rehearse(int run) {
+        startOver("rehearsal " + run, 31L * run + 3);
+        both("addHall", 0, 96);
+        for (int instrument = 0; instrument < 6; instrument++) {
+            both("addPlayer", instrument, 0, 10);
+        }
+        for (int work = 0; work < 6 + run % 3; work++) {
+            both("addWork", run % 2 == 0 ? 5 : 1 + next(30), true);
+            for (int instrument = 0; instrument < 6; instrument++) {
+                both("setParts", work, instrument, next(2));
+            }
+        }
+        both("addService", 'r', 9, 20, 16, 0);
+        for (int time = 0; time < 12; time++) {
+            both("add", 0, next(wall.works.size()));
+        }
+        both("book", 0);
+        for (int player = 0; player < 4; player++) {
+            both("waiting", 0);
+            for (int index = -1; index < 7; index++) {
+                both("callAt", 0, index);
+            }
+            both("away", 0, next(6));
+        }
+    }
+
+    /** Three players, and short services in four halls on few days. */
+    private void crowd(int run) {
+        startOver("crowd " + run, 17L * run + 9);
+        both("addWork", 5, true);
+        both("setParts", 0, 0, 1);
+        for (int player = 0; player < 3; player++) {
+            both("addPlayer", 0, 0, 10 + player % 2);
+        }
+        for (int hall = 0; hall < 4; hall++) {
+            both("addHall", 0, 96);
+        }
+        for (int service = 0; service < 50; service++) {
+            Object added = both("addService", 's', 20 + next(8 + run % 5), 20 + next(60), 4 + next(9), next(4));
+            if (added instanceof Integer) {
+                both("add", added, 0);
+                both("isFree", next(3), added);
+                both("book", added);
+            }
+        }
+        lookAtAll();
+    }
+
+    private void startOver(String name, long firstSeed) {
+        begin(name + " against PlainWall");
+        seed = firstSeed;
+        wall = new PlainWall();
     }
 
     /** The same numbers in every run of the tests. */
