@@ -1,5 +1,12 @@
-/** Promises 21 to 27: bookings, casts, who is away, and costs. */
+/** Promises 21 to 27, and what the terms say of casts: bookings, who is away, and costs. */
 final class BookingTests extends Promises {
+    private static final String LEFT_OUT = "A work that has no cast, has no score on that day, or needs a soloist whom the "
+            + "service has not, is left out;";
+    private static final String COST = "The cost of a booked service are the wages of all who are cast in a work that "
+            + "stands, each once, 10 for each part of these that is doubled, and the fee of its guest, whatever stands.";
+    private static final String AWAY = "When a player is told to be away from a booked service, it is cast anew, as if it "
+            + "were booked now, without those who are away, also if that player was not cast;";
+
     BookingTests(Check check) {
         super(check);
     }
@@ -7,140 +14,239 @@ final class BookingTests extends Promises {
     @Override
     void run() {
         book();
+        bookRefused();
         leftOut();
+        leftOutPlayersAreNotPaid();
         unbook();
+        unbookForgets();
+        unbookRefused();
         isBooked();
         away();
+        awayRefused();
         awayAsIfBookedNow();
+        awayLooksAtEverything();
         stands();
+        standsOfNone();
         castAt();
-        castCostsLeast();
-        castAlready();
-        castIsFair();
-        castIsFirst();
-        castIsFirstAcrossInstruments();
-        manyParts();
+        castAtRefused();
+        castAtOfTenParts();
         cost();
+        costRefused();
     }
 
+    // ---- 21 ----
+
     private void book() {
-        begin("21 book");
-        due("no such service", () -> book.book(0), INDEX);
-        book.addHall(0, 96);
-        book.addPlayer(0, 0, 40);
-        work(10, 1);
-        work(10, 0, 1);
+        says(21, "Books a service.", "Returns what it costs.");
+        two();
+        due("one work of two", () -> book.book(0), 10);
+        due("it is booked", () -> book.isBooked(0), true);
+        due("it costs that", () -> book.cost(0), 10);
+        book.engage(1, 0);
+        due("two works, one player, a guest", () -> book.book(1), 10 + 100);
         work(10);
-        concert(5);
-        due("service -1", () -> book.book(-1), INDEX);
-        due("without works", () -> book.book(0), UNSUPPORTED);
-        book.add(0, 1);
-        due("no work left", () -> book.book(0), UNSUPPORTED);
-        due("not booked", () -> book.isBooked(0), false);
-        book.add(0, 0);
-        due("one left", () -> book.book(0), 40);
-        due("it is booked", () -> book.book(0), UNSUPPORTED);
-        concert(9, 2);
-        due("a work without parts", () -> book.book(1), 0);
-        due("stands", () -> book.stands(1, 2), true);
+        concert(30, 2);
+        due("a work without parts", () -> book.book(2), 0);
+        due("stands", () -> book.stands(2, 2), true);
+    }
+
+    private void bookRefused() {
+        says(21, "service: the service", "Throws IndexOutOfBoundsException if there is no such service",
+                "Throws UnsupportedOperationException if it is booked, or no work is left");
+        alsoTerms("a service without any work left cannot be booked.");
+        due("the first of none", () -> book.book(0), INDEX);
+        two();
+        concert(25);
+        due("no work is in it", () -> book.book(2), UNSUPPORTED);
+        book.add(2, 1);
+        due("the only work has no soloist", () -> book.book(2), UNSUPPORTED);
+        due("not booked", () -> book.isBooked(2), false);
+        book.refuse(0, 0, true);
+        book.refuse(1, 0, true);
+        due("the one has no cast, the other one no soloist", () -> book.book(0), UNSUPPORTED);
+        book.refuse(1, 0, false);
+        due("one work is left", () -> book.book(0), 20);
+        due("booked", () -> book.book(0), UNSUPPORTED);
+        book.away(0, 1);
+        due("booked without any work", () -> book.book(0), UNSUPPORTED);
+        numbered("service", 3, service -> book.book(service));
     }
 
     private void leftOut() {
-        begin("21 book: what is left out");
-        book.addHall(0, 96);
-        book.addPlayer(0, 0, 40);
+        terms(LEFT_OUT);
+        halls(1);
+        players(40);
         book.addGuest(100, 2 | 4);
         book.addWork(10, false);
         soloWork(10);
         work(10);
         soloWork(10, 1);
+        work(10, 0, 1);
         book.hire(0, 20, 1, 1);
         concert(19, 0, 2);
-        concert(20, 0, 1, 2, 3);
+        concert(20, 0, 1, 2, 3, 4);
         book.book(0);
-        due("no score yet", () -> book.stands(0, 0), false);
+        due("no score the day ahead", () -> book.stands(0, 0), false);
         book.book(1);
         due("a score", () -> book.stands(1, 0), true);
         due("no soloist", () -> book.stands(1, 1), false);
         due("needs no soloist", () -> book.stands(1, 2), true);
+        due("no cast", () -> book.stands(1, 4), false);
         book.unbook(1);
         book.engage(1, 0);
-        due("with the fee", () -> book.book(1), 100);
+        due("with a guest", () -> book.book(1), 100);
         due("a soloist", () -> book.stands(1, 1), true);
-        due("the guest does not know it", () -> book.stands(1, 3), false);
-        due("players of what is left out are not booked", () -> book.services(0), 0);
+        due("not for this one", () -> book.stands(1, 3), false);
         service('r', 20, 70, 4, 0, 1);
         due("a rehearsal needs the soloist too", () -> book.book(2), UNSUPPORTED);
         service('s', 28, 70, 4, 0, 0);
         due("a session needs the score too", () -> book.book(3), UNSUPPORTED);
     }
 
+    private void leftOutPlayersAreNotPaid() {
+        terms("is left out;");
+        halls(1);
+        players(40, 30);
+        book.addPlayer(1, 0, 20);
+        soloWork(10, 2, 1);
+        work(10, 0, 1);
+        work(10, 3);
+        work(10, 1);
+        concert(5, 0, 1, 2, 3);
+        due("only who is cast in what stands", () -> book.book(0), 20 + 30);
+        due("the first of two for what is left out", () -> book.services(0), 0);
+        due("not cast already by what is left out", () -> book.castAt(0, 3, 0), 1);
+    }
+
+    // ---- 22 ----
+
     private void unbook() {
-        begin("22 unbook");
-        due("no such service", () -> book.unbook(0), INDEX);
-        book.addHall(0, 96);
-        book.addPlayer(0, 0, 40);
-        book.addPlayer(0, 0, 60);
+        says(22, "Books a service no more;", "Returns what it cost.");
+        two();
+        book.engage(0, 0);
+        book.book(0);
+        due("what it cost", () -> book.unbook(0), 110);
+        due("not booked", () -> book.isBooked(0), false);
+        due("costs nothing", () -> book.cost(0), 0);
+        due("nobody is booked", () -> book.services(0), 0);
+        due("nothing stands", () -> book.stands(0, 0), false);
+        due("nor is cast", () -> book.castAt(0, 0, 0), NO_ELEMENT);
+        due("its guest stays", () -> book.guestOf(0), 0);
+        due("so do its works", () -> book.remove(0, 1), 1);
+        due("it can be booked again", () -> book.book(0), 110);
+    }
+
+    private void unbookForgets() {
+        says(22, "who was away, and how long it ran, is as if it was never told.");
+        halls(1);
+        players(40, 60);
         work(10, 1);
         concert(5, 0);
-        due("not booked", () -> book.unbook(0), UNSUPPORTED);
         book.book(0);
         book.away(0, 0);
         book.ran(0, 32);
         due("what it cost, overtime aside", () -> book.unbook(0), 60);
-        due("not booked any more", () -> book.unbook(0), UNSUPPORTED);
-        due("costs nothing", () -> book.cost(0), 0);
-        due("nor overtime", () -> book.overtime(0), 0);
-        due("nobody is booked", () -> book.services(1), 0);
-        due("nothing stands", () -> book.stands(0, 0), false);
+        due("no overtime", () -> book.overtime(0), 0);
         due("who was away is not", () -> book.book(0), 40);
         due("it ran as planned", () -> book.overtime(0), 6 * 4);
         due("away can be told again", () -> book.away(0, 0), 1);
+        book.unbook(0);
+        book.book(0);
+        due("and the other one", () -> book.away(0, 1), 1);
+        due("who was away is cast", () -> book.castAt(0, 0, 0), 0);
     }
 
+    private void unbookRefused() {
+        says(22, "service: the service", "Throws IndexOutOfBoundsException if there is no such service",
+                "Throws UnsupportedOperationException if it is not booked");
+        due("the first of none", () -> book.unbook(0), INDEX);
+        two();
+        due("not booked yet", () -> book.unbook(0), UNSUPPORTED);
+        book.book(0);
+        due("another one is", () -> book.unbook(1), UNSUPPORTED);
+        book.away(0, 0);
+        book.away(0, 1);
+        due("booked without any work", () -> book.unbook(0), 0);
+        due("not booked any more", () -> book.unbook(0), UNSUPPORTED);
+        book.book(1);
+        numbered("service", 2, service -> book.unbook(service));
+    }
+
+    // ---- 23 ----
+
     private void isBooked() {
-        begin("23 isBooked");
-        due("no such service", () -> book.isBooked(0), INDEX);
-        book.addHall(0, 96);
-        work(10);
-        concert(5, 0);
-        due("service -1", () -> book.isBooked(-1), INDEX);
+        says(23, "Returns whether a service is booked.", "Returns whether it is.", "service: the service",
+                "Throws IndexOutOfBoundsException if there is no such service");
+        due("the first of none", () -> book.isBooked(0), INDEX);
+        two();
         due("not yet", () -> book.isBooked(0), false);
         book.book(0);
         due("booked", () -> book.isBooked(0), true);
+        due("the other one not", () -> book.isBooked(1), false);
+        book.away(0, 0);
+        book.away(0, 1);
+        due("without any work", () -> book.isBooked(0), true);
         book.unbook(0);
         due("no more", () -> book.isBooked(0), false);
+        numbered("service", 2, service -> book.isBooked(service));
     }
 
+    // ---- 24 ----
+
     private void away() {
-        begin("24 away");
-        due("no such service", () -> book.away(0, 0), INDEX);
-        book.addHall(0, 96);
-        book.addPlayer(0, 0, 40);
-        book.addPlayer(0, 0, 60);
+        says(24, "Tells that a player is away from a booked service.", "Returns the works that stand then, as bits.");
+        alsoTerms("it stays booked by that, also with no work.");
+        halls(1);
+        players(40, 60);
         book.addPlayer(1, 0, 10);
         work(10, 1);
         work(10, 0, 1);
         concert(5, 0, 1);
-        due("no such player", () -> book.away(0, 3), INDEX);
-        due("player -1", () -> book.away(0, -1), INDEX);
-        due("not booked", () -> book.away(0, 0), UNSUPPORTED);
         book.book(0);
         due("another one plays", () -> book.away(0, 0), 3);
-        due("told", () -> book.away(0, 0), UNSUPPORTED);
         due("the other one", () -> book.castAt(0, 0, 0), 1);
         due("costs more", () -> book.cost(0), 70);
-        due("nobody is left", () -> book.away(0, 2), 1);
-        due("the second work is left out", () -> book.stands(0, 1), false);
-        due("no work", () -> book.away(0, 1), 0);
+        due("nobody is left for the second work", () -> book.away(0, 2), 1);
+        due("it is left out", () -> book.stands(0, 1), false);
+        due("nobody is left at all", () -> book.away(0, 1), 0);
         due("it stays booked", () -> book.isBooked(0), true);
         due("at no cost", () -> book.cost(0), 0);
         due("nobody is booked", () -> book.services(1), 0);
+        due("it is sound", () -> book.isSound(), true);
+    }
+
+    private void awayRefused() {
+        says(24, "service: the service", "player: the player",
+                "Throws IndexOutOfBoundsException if there is no such service or player",
+                "Throws UnsupportedOperationException if it is not booked, or that was told");
+        due("the first of none", () -> book.away(0, 0), INDEX);
+        players(10);
+        due("a player, but no service", () -> book.away(0, 0), INDEX);
+        book = new Seasonbook();
+        halls(1);
+        bookedConcert(5, work(10));
+        due("a service, but no player", () -> book.away(0, 0), INDEX);
+        book = new Seasonbook();
+        two();
+        due("not booked", () -> book.away(0, 0), UNSUPPORTED);
+        book.book(0);
+        due("another one is booked", () -> book.away(1, 0), UNSUPPORTED);
+        due("not told yet", () -> book.away(0, 1), 1);
+        due("that was told", () -> book.away(0, 1), UNSUPPORTED);
+        due("of another player not yet", () -> book.away(0, 0), 0);
+        due("that was told too", () -> book.away(0, 0), UNSUPPORTED);
+        due("that was told, still", () -> book.away(0, 1), UNSUPPORTED);
+        book.unbook(0);
+        due("booked no more", () -> book.away(0, 0), UNSUPPORTED);
+        book.book(0);
+        book.book(1);
+        numbered("service", 2, service -> book.away(service, 0));
+        numbered("player", 2, player -> book.away(0, player));
     }
 
     private void awayAsIfBookedNow() {
-        begin("24 away: cast as if it were booked now");
-        book.addHall(0, 96);
+        terms(AWAY);
+        halls(1);
         book.addPlayer(0, 0, 40);
         book.addPlayer(1, 0, 50);
         work(10, 1);
@@ -150,7 +256,7 @@ final class BookingTests extends Promises {
         book.book(0);
         book.ran(0, 20);
         book.hire(1, 5, 1, 1);
-        book.addPlayer(0, 0, 30);
+        players(30);
         book.refuse(2, 1, true);
         due("not hired as it was booked", () -> book.stands(0, 1), false);
         due("of one who was not cast", () -> book.away(0, 1), 3);
@@ -158,169 +264,117 @@ final class BookingTests extends Promises {
         due("but refuses this", () -> book.castAt(0, 1, 0), 0);
         due("it ran as was told", () -> book.overtime(0), 10 * (3 + 4));
         due("the new one away", () -> book.away(0, 2), 3);
-        due("as before", () -> book.castAt(0, 0, 0), 0);
+        due("those who are away stay away", () -> book.castAt(0, 0, 0), 0);
+        due("one cast for both", () -> book.cost(0), 40);
     }
 
-    private void stands() {
-        begin("25 stands");
-        book.addHall(0, 96);
-        work(10);
+    private void awayLooksAtEverything() {
+        terms("it is cast anew, as if it were booked now, without those who are away,");
+        halls(2);
+        players(10, 10, 10);
         work(10, 1);
-        due("no such service", () -> book.stands(0, 0), INDEX);
+        bookedConcert(5, 0);
+        bookedConcert(15, 0);
+        due("the second one is cast with who has no service", () -> book.castAt(1, 0, 0), 1);
+        book.away(0, 2);
+        due("the service itself does not count", () -> book.castAt(0, 0, 0), 0);
+        booked('s', 5, 70, 4, 1, 0);
+        due("the third one with who has none", () -> book.castAt(2, 0, 0), 2);
+        due("away from one is not away from another one", () -> book.away(2, 0), 1);
+        due("still the fewest others", () -> book.castAt(2, 0, 0), 2);
+        book.leave(1, 5, 5);
+        due("leave counts", () -> book.away(0, 0), 0);
+    }
+
+    // ---- 25 ----
+
+    private void stands() {
+        says(25, "Returns whether a work stands in a booked service.", "Returns whether so, false if it is not booked.");
+        two();
         work(10);
-        concert(5, 0, 1);
-        due("no such work", () -> book.stands(0, 3), INDEX);
-        due("work -1", () -> book.stands(0, -1), INDEX);
         due("not booked", () -> book.stands(0, 0), false);
         book.book(0);
         due("stands", () -> book.stands(0, 0), true);
         due("left out", () -> book.stands(0, 1), false);
         due("not in it", () -> book.stands(0, 2), false);
+        due("in a service that is not booked", () -> book.stands(1, 0), false);
+        book.away(0, 0);
+        due("stands with another one", () -> book.stands(0, 0), true);
+        book.away(0, 1);
+        due("stands no more", () -> book.stands(0, 0), false);
+        book.unbook(0);
+        book.book(0);
+        due("stands again", () -> book.stands(0, 0), true);
+        book.unbook(0);
+        due("booked no more", () -> book.stands(0, 0), false);
     }
 
+    private void standsOfNone() {
+        says(25, "service: the service", "work: the work",
+                "Throws IndexOutOfBoundsException if there is no such service or work");
+        due("the first of none", () -> book.stands(0, 0), INDEX);
+        work(10);
+        due("a work, but no service", () -> book.stands(0, 0), INDEX);
+        book = new Seasonbook();
+        halls(1);
+        concert(5);
+        due("a service, but no work", () -> book.stands(0, 0), INDEX);
+        book = new Seasonbook();
+        two();
+        numbered("service", 2, service -> book.stands(service, 0));
+        numbered("work", 2, work -> book.stands(0, work));
+    }
+
+    // ---- 26 ----
+
     private void castAt() {
-        begin("26 castAt");
-        book.addHall(0, 96);
+        says(26, "Returns who plays a part.", "part: the part, from 0, by instruments", "Returns the player.");
+        halls(1);
         book.addPlayer(2, 0, 10);
         book.addPlayer(0, 0, 20);
         book.addPlayer(2, 0, 30);
         work(10, 1, 0, 2);
-        work(10);
-        work(10, 0, 1);
-        due("no such service", () -> book.castAt(0, 0, 0), INDEX);
-        concert(5, 0, 1, 2);
-        due("no such work", () -> book.castAt(0, 3, 0), INDEX);
-        due("work -1", () -> book.castAt(0, -1, 0), INDEX);
-        due("not booked", () -> book.castAt(0, 0, 0), NO_ELEMENT);
-        book.book(0);
+        work(10, 0, 0, 1);
+        bookedConcert(5, 1, 0);
         due("by instruments first", () -> book.castAt(0, 0, 0), 1);
         due("then the others", () -> book.castAt(0, 0, 1), 0);
         due("and the last", () -> book.castAt(0, 0, 2), 2);
+        due("of another work", () -> book.castAt(0, 1, 0), 0);
+    }
+
+    private void castAtRefused() {
+        says(26, "service: the service", "work: the work",
+                "Throws IndexOutOfBoundsException if there is no such service or work",
+                "Throws NoSuchElementException if the work does not stand there, or there is no such part");
+        due("the first of none", () -> book.castAt(0, 0, 0), INDEX);
+        work(10);
+        due("a work, but no service", () -> book.castAt(0, 0, 0), INDEX);
+        book = new Seasonbook();
+        two();
+        work(10);
+        work(10, 1);
+        book.add(0, 2);
+        due("not booked", () -> book.castAt(0, 0, 0), NO_ELEMENT);
+        book.book(0);
+        due("the only part", () -> book.castAt(0, 0, 0), 0);
         due("part -1", () -> book.castAt(0, 0, -1), NO_ELEMENT);
-        due("no such part", () -> book.castAt(0, 0, 3), NO_ELEMENT);
+        due("part 1 of 1", () -> book.castAt(0, 0, 1), NO_ELEMENT);
         due("far off", () -> book.castAt(0, 0, MOST), NO_ELEMENT);
-        due("without parts", () -> book.castAt(0, 1, 0), NO_ELEMENT);
-        due("left out", () -> book.castAt(0, 2, 0), NO_ELEMENT);
+        due("far below", () -> book.castAt(0, 0, LEAST), NO_ELEMENT);
+        due("32 parts on", () -> book.castAt(0, 0, 32), NO_ELEMENT);
+        due("left out", () -> book.castAt(0, 1, 0), NO_ELEMENT);
+        due("without parts", () -> book.castAt(0, 2, 0), NO_ELEMENT);
+        due("not in it", () -> book.castAt(0, 3, 0), NO_ELEMENT);
+        due("in another one that is not booked", () -> book.castAt(1, 0, 0), NO_ELEMENT);
+        numbered("service", 2, service -> book.castAt(service, 0, 0));
+        numbered("work", 4, work -> book.castAt(0, work, 0));
         book.unbook(0);
         due("no more booked", () -> book.castAt(0, 0, 0), NO_ELEMENT);
     }
 
-    private void castCostsLeast() {
-        begin("26 castAt: a cast costs least");
-        book.addHall(0, 96);
-        book.addPlayer(0, 1, 100);
-        book.addPlayer(1, 3, 89);
-        book.addPlayer(1, 2, 200);
-        work(10, 1);
-        work(10, 0, 1);
-        work(10, 1, 1);
-        concert(5, 0);
-        due("a doubling for less", () -> book.book(0), 99);
-        due("who doubles", () -> book.castAt(0, 0, 0), 1);
-        concert(9, 1, 2);
-        due("both parts, one cast already", () -> book.book(1), 189);
-        due("who plays the own one", () -> book.castAt(1, 2, 1), 1);
-        concert(13, 2, 0);
-        due("the second work pays no wage of the first", () -> book.book(2), 189);
-        due("own instrument without wage", () -> book.castAt(2, 0, 0), 0);
-        book.away(2, 0);
-        due("a doubling for each work", () -> book.cost(2), 89 + 200 + 10 + 10);
-    }
-
-    private void castAlready() {
-        begin("26 castAt: who is cast already costs no wage at all");
-        book.addHall(0, 96);
-        book.addPlayer(0, 2, 10);
-        book.addPlayer(1, 0, 11);
-        work(10, 1);
-        work(10, 0, 1);
-        concert(5, 0, 1);
-        due("a doubling is cheaper than another wage", () -> book.book(0), 20);
-        due("by one", () -> book.castAt(0, 1, 0), 0);
-        book.addPlayer(1, 0, 10);
-        concert(10, 0, 1);
-        due("as dear as another wage", () -> book.book(1), 20);
-        due("so the one with fewer services", () -> book.castAt(1, 1, 0), 2);
-        concert(15, 0, 1);
-        book.away(1, 2);
-        book.book(2);
-        due("as dear, with fewer services", () -> book.castAt(2, 1, 0), 2);
-        book.unbook(2);
-        book.unbook(1);
-        book.unbook(0);
-        book.book(0);
-        due("as dear, with as many: the first", () -> book.castAt(0, 1, 0), 0);
-    }
-
-    private void castIsFair() {
-        begin("26 castAt: of like ones the fewest other services");
-        book.addHall(0, 96);
-        book.addPlayer(0, 0, 10);
-        book.addPlayer(0, 0, 10);
-        book.addPlayer(0, 0, 10);
-        work(10, 1);
-        work(10, 2);
-        bookedConcert(5, 0);
-        bookedConcert(10, 0);
-        bookedConcert(15, 1);
-        due("first", () -> book.castAt(0, 0, 0), 0);
-        due("then another one", () -> book.castAt(1, 0, 0), 1);
-        due("the third is fresh", () -> book.castAt(2, 1, 1), 2);
-        due("and of like ones the first", () -> book.castAt(2, 1, 0), 0);
-        bookedConcert(20, 1);
-        due("1 and 2 have fewer", () -> book.castAt(3, 1, 0), 1);
-        due("2 too", () -> book.castAt(3, 1, 1), 2);
-        book.away(3, 0);
-        due("the service itself does not count", () -> book.castAt(3, 1, 0), 1);
-        concert(25, 0, 1);
-        book.book(4);
-        due("all have two", () -> book.castAt(4, 0, 0), 0);
-        due("who is cast costs least", () -> book.castAt(4, 1, 0), 0);
-        due("of like ones the first", () -> book.castAt(4, 1, 1), 1);
-    }
-
-    private void castIsFirst() {
-        begin("26 castAt: of like ones the first, part by part");
-        book.addHall(0, 96);
-        book.addPlayer(1, 1, 10);
-        book.addPlayer(0, 2, 10);
-        book.addPlayer(1, 1, 10);
-        book.addPlayer(0, 2, 10);
-        work(10, 1, 1);
-        work(10, 2, 2);
-        concert(5, 0);
-        due("no doubling is cheaper than the first order", () -> book.book(0), 20);
-        due("instrument 0", () -> book.castAt(0, 0, 0), 1);
-        due("instrument 1", () -> book.castAt(0, 0, 1), 0);
-        concert(9, 1);
-        book.book(1);
-        due("the first of two", () -> book.castAt(1, 1, 0), 1);
-        due("the second of two", () -> book.castAt(1, 1, 1), 3);
-        due("of the next instrument", () -> book.castAt(1, 1, 2), 0);
-        due("the last", () -> book.castAt(1, 1, 3), 2);
-    }
-
-    private void castIsFirstAcrossInstruments() {
-        begin("26 castAt: of like ones the first, across instruments");
-        book.addHall(0, 96);
-        book.addPlayer(5, 2, 10);
-        book.addPlayer(5, 3, 10);
-        book.addPlayer(5, 3, 10);
-        work(10, 1, 1);
-        bookedConcert(5, 0);
-        due("the lowest who can play the first part", () -> book.castAt(0, 0, 0), 1);
-        due("then the lowest for the second", () -> book.castAt(0, 0, 1), 0);
-        book.addPlayer(5, 1, 10);
-        work(10, 2, 1);
-        bookedConcert(10, 1);
-        due("the first of those with the fewest services", () -> book.castAt(1, 1, 0), 1);
-        due("who had none is in", () -> book.castAt(1, 1, 1), 3);
-        due("and the other one who had none", () -> book.castAt(1, 1, 2), 2);
-    }
-
-    private void manyParts() {
-        begin("26 castAt: ten parts of six instruments");
-        book.addHall(0, 96);
+    private void castAtOfTenParts() {
+        says(26, "part: the part, from 0, by instruments", "or there is no such part");
+        halls(1);
         for (int player = 0; player < 14; player++) {
             book.addPlayer(player % 6, 63, 999);
         }
@@ -333,28 +387,44 @@ final class BookingTests extends Promises {
             int looked = part;
             due("part " + part, () -> book.castAt(0, 0, looked), due[part]);
         }
+        due("an eleventh", () -> book.castAt(0, 0, 10), NO_ELEMENT);
         concert(9, 1);
-        due("three double", () -> book.book(1), 9990 + 20);
+        due("two double", () -> book.book(1), 9990 + 20);
         due("all are sound", () -> book.isSound(), true);
     }
 
+    // ---- 27 ----
+
     private void cost() {
-        begin("27 cost");
-        due("no such service", () -> book.cost(0), INDEX);
-        book.addHall(0, 96);
+        says(27, "Returns what a service costs, overtime aside.", "Returns the cost, 0 if it is not booked.");
+        alsoTerms(COST);
+        halls(1);
         book.addPlayer(0, 2, 40);
         book.addPlayer(1, 0, 70);
         book.addGuest(1000, 4);
         work(10, 1);
         work(10, 0, 1);
-        soloWork(10, 0, 0, 0);
-        concert(5, 0, 1, 2);
-        due("service -1", () -> book.cost(-1), INDEX);
+        soloWork(10, 0, 1, 1);
+        work(10, 1, 1);
+        concert(5, 0, 1, 2, 3);
         book.engage(0, 0);
         due("not booked", () -> book.cost(0), 0);
-        due("as book answers", () -> book.book(0), 1050);
-        due("each once, a doubling, a fee", () -> book.cost(0), 1050);
+        due("as book answers", () -> book.book(0), 40 + 10 + 70 + 1000);
+        due("each wage once, a doubling, a fee of what does not stand", () -> book.cost(0), 1120);
         book.ran(0, 32);
-        due("overtime aside", () -> book.cost(0), 1050);
+        due("overtime aside", () -> book.cost(0), 1120);
+        book.away(0, 1);
+        due("one plays two works and doubles in one", () -> book.cost(0), 40 + 10 + 1000);
+        book.away(0, 0);
+        due("nothing stands", () -> book.cost(0), 1000);
+        book.unbook(0);
+        due("not booked any more", () -> book.cost(0), 0);
+    }
+
+    private void costRefused() {
+        says(27, "service: the service", "Throws IndexOutOfBoundsException if there is no such service");
+        due("the first of none", () -> book.cost(0), INDEX);
+        two();
+        numbered("service", 2, service -> book.cost(service));
     }
 }

@@ -4,11 +4,15 @@ import java.util.ArrayList;
 import java.util.Arrays;
 import java.util.Comparator;
 import java.util.List;
+import java.util.Set;
 
 /** Promises 1 to 41: long runs of made-up calls, each answered by the program and by PlainWall alike. */
 final class ModelTests extends Promises {
     private static final int RUNS = 60;
     private static final int CALLS = 300;
+    private static final Set<String> ASKING = Set.of("isScoreThere", "guestOf", "isBooked", "stands", "castAt", "cost",
+        "isFree", "services", "callAt", "waiting", "overtime", "lastPlayed", "howOften", "total", "rehearsed", "checksum",
+        "bookedShare", "meanServices", "isSound");
 
     private final List<Method> face = new ArrayList<>();
     private long seed;
@@ -105,7 +109,10 @@ final class ModelTests extends Promises {
     private Object both(Method method, Object... arguments) {
         String call = method.getName() + Arrays.toString(arguments);
         Object answer = Check.answerOf(() -> invoke(wall, method.getName(), method.getParameterTypes(), arguments));
+        boolean isAsking = ASKING.contains(method.getName());
+        String before = isAsking ? State.of(book) : "";
         due(call, () -> invoke(book, method.getName(), method.getParameterTypes(), arguments), answer);
+        due(call + " only asks", () -> isAsking && !before.equals(State.of(book)), false);
         due("checksum() behind " + call, () -> book.checksum(), wall.checksum());
         return answer;
     }

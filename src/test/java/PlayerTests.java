@@ -1,4 +1,4 @@
-/** Promises 7 to 9: players, leave and refusals; 28 and 29: who is free, and for how many services booked. */
+/** Promises 7 to 9, and what the terms say of players. */
 final class PlayerTests extends Promises {
     PlayerTests(Check check) {
         super(check);
@@ -7,208 +7,262 @@ final class PlayerTests extends Promises {
     @Override
     void run() {
         addPlayer();
-        leave();
+        ownInstrument();
+        doubles();
+        wage();
+        fourteenPlayers();
+        leaveDays();
+        leaveRange();
+        leaveAtTheEndsOfTheYear();
+        leaveWhenBooked();
+        leaveWhenNotBookedAnyMore();
+        fiveLeaves();
         refuse();
-        freeOnTheDay();
-        freeOverNight();
-        freeInTheWeek();
-        freeAsPlanned();
-        services();
+        refusedWorks();
+        refuseOfNone();
     }
+
+    // ---- 7 ----
 
     private void addPlayer() {
-        begin("7 addPlayer");
-        due("instrument -1", () -> book.addPlayer(-1, 0, 1), ARGUMENT);
-        due("instrument 6", () -> book.addPlayer(6, 0, 1), ARGUMENT);
-        due("doubles -1", () -> book.addPlayer(0, -1, 1), ARGUMENT);
-        due("doubles 64", () -> book.addPlayer(0, 64, 1), ARGUMENT);
+        says(7, "Adds a player.", "instrument: 0 to 5", "doubles: the instruments that are doubled, as bits from 0 to 63,",
+                "wage: the wage", "Throws IllegalArgumentException if a number is out of range");
+        range("instrument", 0, 5, instrument -> book.addPlayer(instrument, 0, 10));
+        range("doubles", 0, 63, doubles -> book.addPlayer(0, doubles, 10));
+        range("wage", 1, 999, wage -> book.addPlayer(0, 0, wage));
         due("wage 0", () -> book.addPlayer(0, 0, 0), ARGUMENT);
-        due("wage 1000", () -> book.addPlayer(0, 0, 1000), ARGUMENT);
-        due("the least", () -> book.addPlayer(0, 0, 1), 0);
-        due("the most", () -> book.addPlayer(5, 63, 999), 1);
-        for (int number = 2; number < 14; number++) {
-            int due = number;
-            due("player " + number, () -> book.addPlayer(0, 1, 5), due);
-        }
-        due("a fifteenth", () -> book.addPlayer(0, 0, 5), STATE);
-        due("a fifteenth out of range", () -> book.addPlayer(0, 0, 0), ARGUMENT);
-        due("still fourteen", () -> book.services(14), INDEX);
+        due("six were added", () -> book.addPlayer(0, 0, 1), 6);
+        due("for no service yet", () -> book.services(6), 0);
     }
 
-    private void leave() {
-        begin("8 leave");
-        due("no such player", () -> book.leave(0, -1, -1), INDEX);
-        book.addPlayer(0, 0, 10);
-        book.addPlayer(0, 0, 20);
-        book.addHall(0, 96);
-        bookedConcert(50, work(10, 1));
-        due("player -1", () -> book.leave(-1, 0, 0), INDEX);
-        due("from -1", () -> book.leave(0, -1, 5), ARGUMENT);
-        due("to 400", () -> book.leave(0, 5, 400), ARGUMENT);
-        due("to ahead of from", () -> book.leave(0, 6, 5), ARGUMENT);
-        due("from 400", () -> book.leave(0, 400, 400), ARGUMENT);
-        due("booked on the last day", () -> book.leave(0, 40, 50), UNSUPPORTED);
-        due("booked on the first day", () -> book.leave(0, 50, 60), UNSUPPORTED);
-        due("another player", () -> book.leave(1, 50, 60), 1);
-        due("up to the day ahead", () -> book.leave(0, 0, 49), 1);
-        due("from the day behind", () -> book.leave(0, 51, 399), 2);
-        due("a day", () -> book.leave(0, 7, 7), 3);
-        due("the same again", () -> book.leave(0, 7, 7), 4);
-        due("a fifth", () -> book.leave(0, 8, 9), 5);
-        due("a sixth", () -> book.leave(0, 8, 9), STATE);
-        due("a sixth, booked", () -> book.leave(0, 50, 50), UNSUPPORTED);
-        due("a sixth, out of range", () -> book.leave(0, 9, 8), ARGUMENT);
-        book.unbook(0);
-        due("free if not on leave", () -> book.isFree(0, 0), true);
-        due("not free on leave", () -> book.isFree(1, 0), false);
-        concert(60);
-        due("not free on the last day", () -> book.isFree(1, 1), false);
-        concert(61);
-        due("free on the day behind", () -> book.isFree(1, 2), true);
+    private void ownInstrument() {
+        says(7, "instrument: 0 to 5");
+        alsoTerms("each with an instrument,");
+        halls(1);
+        for (int instrument = 0; instrument < 6; instrument++) {
+            book.addPlayer(instrument, 0, 10 + instrument);
+        }
+        work(10, 1, 1, 1, 1, 1, 1);
+        bookedConcert(5, 0);
+        for (int part = 0; part < 6; part++) {
+            int looked = part;
+            due("instrument " + part, () -> book.castAt(0, 0, looked), looked);
+        }
+        due("nobody doubles", () -> book.cost(0), 75);
     }
+
+    private void doubles() {
+        says(7, "doubles: the instruments that are doubled, as bits from 0 to 63, the own one of no meaning");
+        alsoTerms("others that are doubled, as bits,");
+        halls(1);
+        book.addPlayer(0, 1 | 2 | 32, 10);
+        for (int instrument = 0; instrument < 6; instrument++) {
+            work(10);
+            book.setParts(instrument, instrument, 1);
+        }
+        concert(5, 0, 1, 2);
+        concert(10, 3, 4, 5);
+        due("the own one is not doubled, the next one is", () -> book.book(0), 10 + 10);
+        due("bit 0, the own one", () -> book.stands(0, 0), true);
+        due("bit 1", () -> book.stands(0, 1), true);
+        due("not bit 2", () -> book.stands(0, 2), false);
+        due("the last one is doubled", () -> book.book(1), 10 + 10);
+        due("not bit 3", () -> book.stands(1, 3), false);
+        due("not bit 4", () -> book.stands(1, 4), false);
+        due("bit 5", () -> book.stands(1, 5), true);
+        book.addPlayer(5, 0, 5);
+        concert(15, 5);
+        due("the own one without its bit", () -> book.book(2), 5);
+    }
+
+    private void wage() {
+        says(7, "wage: the wage");
+        alsoTerms("and a wage of 1 to 999.");
+        halls(1);
+        players(1, 999);
+        work(10, 1);
+        concert(5, 0);
+        due("the least wage", () -> book.book(0), 1);
+        due("the greatest wage", () -> book.away(0, 0), 1);
+        due("is paid", () -> book.cost(0), 999);
+    }
+
+    private void fourteenPlayers() {
+        says(7, "Returns the number.", "Throws IllegalStateException if there are 14");
+        alsoTerms("Players. At most 14 are numbered from 0,");
+        for (int number = 0; number < 14; number++) {
+            int due = number;
+            due("player " + number, () -> book.addPlayer(due % 6, 63, 999), due);
+        }
+        due("a fifteenth", () -> book.addPlayer(0, 0, 1), STATE);
+        numbered("services of player", 14, player -> book.services(player));
+    }
+
+    // ---- 8 ----
+
+    private void leaveDays() {
+        says(8, "Gives a player leave.", "from: the first day", "to: the last day,");
+        alsoTerms("A player can be on leave from a day to a day,");
+        halls(1);
+        players(10, 20);
+        for (int day : new int[] {19, 20, 25, 30, 31}) {
+            concert(day);
+        }
+        due("leave", () -> book.leave(0, 20, 30), 1);
+        due("the day ahead", () -> book.isFree(0, 0), true);
+        due("the first day", () -> book.isFree(0, 1), false);
+        due("between", () -> book.isFree(0, 2), false);
+        due("the last day", () -> book.isFree(0, 3), false);
+        due("the day behind", () -> book.isFree(0, 4), true);
+        due("another player", () -> book.isFree(1, 2), true);
+    }
+
+    private void leaveRange() {
+        says(8, "to: the last day, not ahead of it", "Throws IllegalArgumentException if a number is out of range",
+                "player: the player", "Throws IndexOutOfBoundsException if there is no such player");
+        due("the first of none", () -> book.leave(0, 0, 0), INDEX);
+        players(10, 20);
+        due("a day ahead of it", () -> book.leave(0, 6, 5), ARGUMENT);
+        due("the same day", () -> book.leave(0, 5, 5), 1);
+        due("far ahead of it", () -> book.leave(0, 399, 0), ARGUMENT);
+        range("from", 0, 399, from -> book.leave(0, from, 399));
+        range("to", 0, 399, to -> book.leave(0, 0, to));
+        numbered("player", 2, player -> book.leave(player, 0, 0));
+    }
+
+    private void leaveAtTheEndsOfTheYear() {
+        says(8, "from: the first day", "to: the last day,");
+        halls(1);
+        players(10, 20);
+        for (int day : new int[] {0, 1, 398, 399}) {
+            concert(day);
+        }
+        book.leave(0, 0, 0);
+        book.leave(0, 399, 399);
+        due("day 0", () -> book.isFree(0, 0), false);
+        due("day 1", () -> book.isFree(0, 1), true);
+        due("day 398", () -> book.isFree(0, 2), true);
+        due("day 399", () -> book.isFree(0, 3), false);
+        due("the whole year", () -> book.leave(1, 0, 399), 1);
+        due("day 1 of it", () -> book.isFree(1, 1), false);
+    }
+
+    private void leaveWhenBooked() {
+        says(8, "Throws UnsupportedOperationException if the player is booked on one of these days");
+        halls(1);
+        players(10, 20, 30);
+        work(10, 2);
+        bookedConcert(50, 0);
+        due("on the last day", () -> book.leave(0, 40, 50), UNSUPPORTED);
+        due("on the first day", () -> book.leave(0, 50, 60), UNSUPPORTED);
+        due("on the only day", () -> book.leave(1, 50, 50), UNSUPPORTED);
+        due("between", () -> book.leave(0, 0, 399), UNSUPPORTED);
+        due("up to the day ahead", () -> book.leave(0, 0, 49), 1);
+        due("from the day behind on", () -> book.leave(0, 51, 399), 2);
+        due("a player who is not cast", () -> book.leave(2, 50, 60), 1);
+        concert(45, 0);
+        due("a service that is not booked", () -> book.leave(1, 45, 45), 1);
+    }
+
+    private void leaveWhenNotBookedAnyMore() {
+        says(8, "if the player is booked on one of these days");
+        halls(1);
+        players(10, 10);
+        work(10, 1);
+        bookedConcert(0, 0);
+        bookedConcert(399, 0);
+        due("booked on day 0", () -> book.leave(0, 0, 0), UNSUPPORTED);
+        due("booked on day 399", () -> book.leave(1, 399, 399), UNSUPPORTED);
+        book.away(1, 1);
+        due("away and so not cast", () -> book.leave(1, 399, 399), 1);
+        due("cast instead", () -> book.leave(0, 399, 399), UNSUPPORTED);
+        book.unbook(0);
+        due("not booked any more", () -> book.leave(0, 0, 0), 1);
+        due("it is cast again", () -> book.book(0), 10);
+    }
+
+    private void fiveLeaves() {
+        says(8, "Returns how many times the player has leave.", "Throws IllegalStateException if there are 5");
+        alsoTerms("at most 5 times,");
+        players(10, 20);
+        for (int time = 1; time <= 5; time++) {
+            int due = time;
+            due("time " + time, () -> book.leave(0, 10 * due, 10 * due + 5), due);
+        }
+        due("a sixth", () -> book.leave(0, 390, 390), STATE);
+        due("one that is told already", () -> book.leave(0, 10, 15), STATE);
+        due("another player", () -> book.leave(1, 390, 390), 1);
+        due("the same days count twice", () -> book.leave(1, 390, 390), 2);
+        halls(1);
+        concert(390);
+        concert(55);
+        due("the sixth was not given", () -> book.isFree(0, 0), true);
+        due("the fifth was", () -> book.isFree(0, 1), false);
+    }
+
+    // ---- 9 ----
 
     private void refuse() {
-        begin("9 refuse");
-        due("no such player", () -> book.refuse(0, 0, true), INDEX);
-        book.addPlayer(0, 0, 10);
-        due("no such work", () -> book.refuse(0, 0, true), INDEX);
-        book.addPlayer(0, 0, 20);
-        book.addHall(0, 96);
-        work(10, 1);
-        work(10, 1);
-        due("work -1", () -> book.refuse(0, -1, true), INDEX);
-        due("player 2", () -> book.refuse(2, 0, true), INDEX);
+        says(9, "Tells whether a player refuses a work.", "Returns whether so before.");
+        players(10, 20);
+        work(10);
+        work(10);
+        due("not at first", () -> book.refuse(0, 1, false), false);
         due("not before", () -> book.refuse(0, 1, true), false);
         due("before", () -> book.refuse(0, 1, true), true);
         due("the other work not", () -> book.refuse(0, 0, false), false);
+        due("the other player not", () -> book.refuse(1, 1, false), false);
+        due("taken back", () -> book.refuse(0, 1, false), true);
+        due("not any more", () -> book.refuse(0, 1, false), false);
+    }
+
+    private void refusedWorks() {
+        says(9, "is: whether so from then on");
+        alsoTerms("and can refuse works.");
+        halls(1);
+        players(10, 20);
+        work(10, 1);
+        work(10, 1);
+        book.refuse(0, 1, true);
         bookedConcert(9, 0, 1);
         due("plays what is not refused", () -> book.castAt(0, 0, 0), 0);
         due("plays not what is refused", () -> book.castAt(0, 1, 0), 1);
-        due("no more", () -> book.refuse(0, 1, false), true);
-        due("a cast stays", () -> book.castAt(0, 1, 0), 1);
+        book.refuse(0, 1, false);
+        due("a cast from before stays", () -> book.castAt(0, 1, 0), 1);
         book.unbook(0);
         book.book(0);
         due("plays it then", () -> book.castAt(0, 1, 0), 0);
-        due("refused behind a booking", () -> book.refuse(0, 1, true), false);
-        due("stays sound", () -> book.isSound(), true);
-        due("the cast stays", () -> book.castAt(0, 1, 0), 0);
+        book.refuse(0, 1, true);
+        due("a cast from before stays again", () -> book.castAt(0, 1, 0), 0);
+        due("and is sound", () -> book.isSound(), true);
         book.refuse(1, 1, true);
         concert(30, 1);
         due("both refuse it", () -> book.book(1), UNSUPPORTED);
     }
 
-    private void freeOnTheDay() {
-        begin("28 isFree on a day");
-        for (int hall = 0; hall < 4; hall++) {
-            book.addHall(0, 96);
+    private void refuseOfNone() {
+        says(9, "player: the player", "work: the work",
+                "Throws IndexOutOfBoundsException if there is no such player or work");
+        due("the first of none", () -> book.refuse(0, 0, true), INDEX);
+        players(10);
+        due("a player, but no work", () -> book.refuse(0, 0, true), INDEX);
+        players(20);
+        begunWithWorksAlone();
+        work(10);
+        work(10);
+        numbered("player", 2, player -> book.refuse(player, 0, true));
+        numbered("work", 2, work -> book.refuse(0, work, true));
+        for (int number = 2; number < 12; number++) {
+            work(10);
         }
-        work(10, 1);
-        due("no such player", () -> book.isFree(0, 0), INDEX);
-        book.addPlayer(0, 0, 10);
-        due("no such service", () -> book.isFree(0, 0), INDEX);
-        booked('r', 10, 40, 4, 0, 0);
-        due("booked, as if it were not", () -> book.isFree(0, 0), true);
-        service('r', 10, 45, 4, 1);
-        due("1 quarter behind it", () -> book.isFree(0, 1), false);
-        service('s', 10, 35, 4, 1);
-        due("1 quarter ahead of it", () -> book.isFree(0, 2), false);
-        service('s', 10, 30, 4, 0);
-        due("further ahead", () -> book.isFree(0, 3), true);
-        service('r', 10, 54, 4, 1, 0);
-        due("further behind", () -> book.isFree(0, 4), true);
-        book.book(4);
-        due("a third on the day", () -> book.isFree(0, 3), false);
-        due("one of the two", () -> book.isFree(0, 4), true);
-        book.unbook(4);
-        service('r', 10, 46, 4, 2);
-        due("2 quarters behind it", () -> book.isFree(0, 5), true);
-        service('r', 10, 34, 4, 2);
-        due("2 quarters ahead of it", () -> book.isFree(0, 6), true);
-        service('r', 10, 38, 16, 3);
-        due("all around it", () -> book.isFree(0, 7), false);
-        due("player -1", () -> book.isFree(-1, 0), INDEX);
-        due("service -1", () -> book.isFree(0, -1), INDEX);
+        due("the last work of all", () -> book.refuse(1, 11, true), false);
+        due("it is told", () -> book.refuse(1, 11, true), true);
+        due("none behind it", () -> book.refuse(1, 12, true), INDEX);
     }
 
-    private void freeOverNight() {
-        begin("28 isFree over night");
-        book.addHall(0, 96);
-        book.addHall(0, 96);
-        book.addPlayer(0, 0, 10);
-        work(10, 1);
-        booked('c', 10, 80, 12, 0, 0);
-        service('r', 11, 39, 4, 0);
-        due("43 quarters behind it", () -> book.isFree(0, 1), false);
-        service('r', 11, 40, 4, 1);
-        due("44 quarters behind it", () -> book.isFree(0, 2), true);
-        service('r', 12, 0, 4, 0);
-        due("a day between", () -> book.isFree(0, 3), true);
-        booked('c', 20, 20, 4, 0, 0);
-        service('r', 19, 66, 6, 0);
-        due("44 quarters ahead of it", () -> book.isFree(0, 5), true);
-        service('r', 19, 66, 7, 1);
-        due("43 quarters ahead of it", () -> book.isFree(0, 6), false);
-    }
-
-    private void freeInTheWeek() {
-        begin("28 isFree in 7 days");
-        book.addHall(0, 96);
-        book.addPlayer(0, 0, 10);
-        work(10, 1);
-        for (int day = 100; day < 104; day++) {
-            booked('r', day, 40, 4, 0, 0);
-            booked('r', day, 50, 4, 0, 0);
-        }
-        service('r', 106, 40, 4, 0, 0);
-        due("a ninth on the 7th day", () -> book.isFree(0, 8), false);
-        due("so it has no cast", () -> book.book(8), UNSUPPORTED);
-        service('r', 107, 40, 4, 0, 0);
-        due("on the 8th day", () -> book.isFree(0, 9), true);
-        service('r', 97, 40, 4, 0, 0);
-        due("a ninth 6 days ahead", () -> book.isFree(0, 10), false);
-        service('r', 96, 40, 4, 0, 0);
-        due("7 days ahead", () -> book.isFree(0, 11), true);
-        book.unbook(5);
-        due("only 7 are booked", () -> book.isFree(0, 8), true);
-        book.book(8);
-        due("only 7 are booked from 100 to 106, ahead of these", () -> book.isFree(0, 10), true);
-        due("8 on these 7 days", () -> book.isFree(0, 5), false);
-        due("from 101 on there are 7", () -> book.isFree(0, 9), true);
-    }
-
-    private void freeAsPlanned() {
-        begin("28 isFree as long as planned");
-        book.addHall(0, 96);
-        book.addPlayer(0, 0, 10);
-        work(10, 1);
-        booked('r', 10, 40, 4, 0, 0);
-        book.ran(0, 32);
-        service('r', 10, 48, 4, 0, 0);
-        due("it was planned to end ahead of that", () -> book.isFree(0, 1), true);
-        book.away(0, 0);
-        due("away does not count", () -> book.isFree(0, 0), true);
-    }
-
-    private void services() {
-        begin("29 services");
-        due("no such player", () -> book.services(0), INDEX);
-        book.addHall(0, 96);
-        book.addPlayer(0, 0, 10);
-        book.addPlayer(0, 0, 20);
-        work(10, 1);
-        due("player -1", () -> book.services(-1), INDEX);
-        due("none", () -> book.services(0), 0);
-        service('r', 1, 40, 4, 0, 0);
-        due("not booked", () -> book.services(0), 0);
-        book.book(0);
-        due("booked", () -> book.services(0), 1);
-        due("not cast", () -> book.services(1), 0);
-        bookedConcert(5, 0);
-        due("two", () -> book.services(0), 2);
-        book.away(1, 0);
-        due("away from one", () -> book.services(0), 1);
-        due("cast instead", () -> book.services(1), 1);
-        book.unbook(1);
-        due("none instead", () -> book.services(1), 0);
+    private void begunWithWorksAlone() {
+        Seasonbook other = new Seasonbook();
+        other.addWork(10, true);
+        due("a work, but no player", () -> other.refuse(0, 0, true), INDEX);
     }
 }

@@ -2,19 +2,27 @@ import java.lang.reflect.Field;
 
 /** Promise 41: what no run of calls can bring about is put into the fields here, to see that isSound tells it. */
 final class SoundnessTests extends Promises {
+    private static final int LAST_PART_SHIFT = 28;
+    private static final long PLAYER = 15;
+
     SoundnessTests(Check check) {
         super(check);
     }
 
     @Override
     void run() {
-        begin("41 isSound: what is not sound");
-        for (int hall = 0; hall < 2; hall++) {
-            book.addHall(0, 96);
-        }
-        for (int player = 0; player < 3; player++) {
-            book.addPlayer(player / 2, 0, 10);
-        }
+        casts();
+        agreement();
+        weeks();
+        halls();
+        guests();
+    }
+
+    /** Three concerts far apart, in two halls, with two players of instrument 0, one of instrument 1, and a guest. */
+    private void threeConcerts() {
+        halls(2);
+        players(10, 10);
+        book.addPlayer(1, 0, 10);
         soloWork(10, 2, 1);
         work(10, 1);
         book.addGuest(10, 1);
@@ -25,76 +33,126 @@ final class SoundnessTests extends Promises {
             book.engage(service, 0);
             book.book(service);
         }
-        due("as it is", () -> book.isSound(), true);
-        brokenServices();
-        brokenCasts();
-        due("all mended", () -> book.isSound(), true);
+        due("as it was booked", () -> book.isSound(), true);
     }
 
-    private void brokenServices() {
-        broken("two of a guest on a day", 1, "day", 5, "hall", 1, "start", 50, "end", 54, "cast", 0);
-        broken("two too near in a hall", 1, "day", 5, "guest", -1, "start", 33, "end", 40, "cast", 0);
-        broken("two at once for a player", 2, "day", 5, "guest", -1, "start", 31, "end", 40);
-        broken("43 quarters of a night", 2, "day", 4, "start", 60, "end", 73);
-        due("two of a guest a day, far enough for players, in two halls", () -> changed(2, "day", 5), false);
-        due("44 quarters of a night", () -> changed(2, "day", 4, "start", 60, "end", 72), true);
-        due("2 quarters between", () -> changed(2, "day", 5, "guest", -1, "start", 32, "end", 40), true);
-        due("4 quarters in a hall", () -> changed(1, "day", 5, "guest", -1, "start", 34, "end", 40), true);
-    }
-
-    private void brokenCasts() {
-        long cast = longOf(0);
-        castBecomes("one player for two parts", 0, cast & ~(15L << 32) | cast >> 4 & 15L << 32);
-        castBecomes("another one for two parts", 0, cast & ~(15L << 36) | cast << 4 & 15L << 36);
-        castBecomes("who cannot play it", 0, cast & ~(15L << 28));
-        castBecomes("none of the players", 0, cast | 15L << 28);
-        castBecomes("none of the players, the next number", 0, cast | 3L << 28);
-        setLong(0, 0, cast);
-    }
-
-    private void castBecomes(String what, int place, long cast) {
-        long before = longOf(0);
-        setLong(0, place, cast);
-        due(what, () -> book.isSound(), false);
-        setLong(0, place, before);
-    }
-
-    private void broken(String what, int service, Object... fields) {
-        due(what, () -> changed(service, fields), false);
-    }
-
-    /** Whether it is sound while these fields of a service are set so. */
-    private boolean changed(int service, Object... fields) {
-        Object row = row(service);
-        Object[] before = new Object[fields.length];
-        for (int place = 0; place < fields.length; place += 2) {
-            before[place] = get(row, (String) fields[place]);
-            set(row, (String) fields[place], fields[place + 1]);
+    private void withoutGuests() {
+        for (int service = 0; service < 3; service++) {
+            put(service, "guest", -1);
         }
-        boolean is = book.isSound();
-        for (int place = 0; place < fields.length; place += 2) {
-            set(row, (String) fields[place], before[place]);
+        due("without guests", () -> book.isSound(), true);
+    }
+
+    private void casts() {
+        says(41, "Returns whether each work that stands has a player for each part who can play it, none twice;");
+        threeConcerts();
+        long cast = castOf(0);
+        long first = LAST_PART_SHIFT + 8;
+        long second = LAST_PART_SHIFT + 4;
+        dueOfCast("the first player twice", cast & ~(PLAYER << second), false);
+        dueOfCast("the second player twice", cast | 1L << first, false);
+        dueOfCast("who cannot play it", cast & ~(PLAYER << LAST_PART_SHIFT), false);
+        dueOfCast("none of the players", cast | PLAYER << LAST_PART_SHIFT, false);
+        dueOfCast("none of the players, the next number", cast | 3L << LAST_PART_SHIFT, false);
+        dueOfCast("the two the other way round", cast & ~(PLAYER << second) | 1L << first, true);
+        put(0, "standing", 0);
+        dueOfCast("what does not stand is not looked at", cast & ~(PLAYER << second), true);
+    }
+
+    private void agreement() {
+        says(41, "all players keep the agreement;");
+        threeConcerts();
+        withoutGuests();
+        put(2, "day", 5, "start", 32, "end", 40);
+        due("2 quarters between", () -> book.isSound(), true);
+        put(2, "start", 31);
+        due("1 quarter between", () -> book.isSound(), false);
+        put(2, "day", 4, "start", 60, "end", 72);
+        due("44 quarters of a night", () -> book.isSound(), true);
+        put(2, "end", 73);
+        due("43 quarters of a night", () -> book.isSound(), false);
+        put(2, "day", 5);
+        due("two a day", () -> book.isSound(), true);
+        put(1, "day", 5, "start", 40, "end", 50);
+        due("three a day", () -> book.isSound(), false);
+        put(1, "cast", 0);
+        due("three a day, but in one nobody is cast", () -> book.isSound(), true);
+    }
+
+    private void weeks() {
+        says(41, "all players keep the agreement;");
+        halls(1);
+        players(10);
+        work(10, 1);
+        for (int service = 0; service < 9; service++) {
+            booked('s', service == 8 ? 7 : service / 2, 40 + 20 * (service % 2), 4, 0, 0);
         }
-        return is;
+        due("nine on 8 days", () -> book.isSound(), true);
+        put(8, "day", 6);
+        due("nine on 7 days", () -> book.isSound(), false);
+        book.unbook(0);
+        due("eight on 7 days", () -> book.isSound(), true);
+    }
+
+    private void halls() {
+        says(41, "no hall has two services too near;");
+        threeConcerts();
+        withoutGuests();
+        put(1, "day", 5, "start", 34, "end", 40, "cast", 0);
+        due("4 quarters between", () -> book.isSound(), true);
+        put(1, "start", 33);
+        due("3 quarters between", () -> book.isSound(), false);
+        put(1, "hall", 1);
+        due("in another hall", () -> book.isSound(), true);
+        put(1, "hall", 0, "day", 6);
+        due("on another day", () -> book.isSound(), true);
+        put(1, "day", 5, "start", 10, "end", 17, "isBooked", false, "standing", 0);
+        due("3 quarters ahead, not booked", () -> book.isSound(), false);
+        put(1, "end", 16);
+        due("4 quarters ahead", () -> book.isSound(), true);
+    }
+
+    private void guests() {
+        says(41, "and guests are engaged once a day.");
+        threeConcerts();
+        put(2, "day", 5);
+        due("one guest twice on a day", () -> book.isSound(), false);
+        put(2, "guest", -1);
+        due("once", () -> book.isSound(), true);
+        put(0, "guest", -1);
+        due("not at all", () -> book.isSound(), true);
+        put(0, "guest", 0);
+        put(2, "day", 6, "guest", 0);
+        due("on two days one behind the other", () -> book.isSound(), true);
+    }
+
+    // ---- fields ----
+
+    private void dueOfCast(String what, long cast, boolean due) {
+        long before = castOf(0);
+        ((long[]) get(row(0), "casts"))[0] = cast;
+        due(what, () -> book.isSound(), due);
+        ((long[]) get(row(0), "casts"))[0] = before;
+    }
+
+    private long castOf(int service) {
+        return ((long[]) get(row(service), "casts"))[0];
     }
 
     private Object row(int service) {
         return ((Object[]) get(book, "planned"))[service];
     }
 
-    private long longOf(int service) {
-        return ((long[]) get(row(service), "casts"))[0];
-    }
-
-    private void setLong(int service, int place, long cast) {
-        ((long[]) get(row(service), "casts"))[place] = cast;
+    /** Sets fields of a service, told as names and values in turn. */
+    private void put(int service, Object... fields) {
+        for (int place = 0; place < fields.length; place += 2) {
+            set(row(service), (String) fields[place], fields[place + 1]);
+        }
     }
 
     private static Object get(Object from, String name) {
         try {
-            Field field = from.getClass().getDeclaredField(name);
-            field.setAccessible(true);
-            return field.get(from);
+            return field(from, name).get(from);
         } catch (ReflectiveOperationException missing) {
             throw new Error(missing);
         }
@@ -102,11 +160,15 @@ final class SoundnessTests extends Promises {
 
     private static void set(Object to, String name, Object value) {
         try {
-            Field field = to.getClass().getDeclaredField(name);
-            field.setAccessible(true);
-            field.set(to, value);
+            field(to, name).set(to, value);
         } catch (ReflectiveOperationException missing) {
             throw new Error(missing);
         }
+    }
+
+    private static Field field(Object of, String name) throws ReflectiveOperationException {
+        Field field = of.getClass().getDeclaredField(name);
+        field.setAccessible(true);
+        return field;
     }
 }
