@@ -249,6 +249,9 @@ final class AgreementTests extends Promises {
         book.book(8);
         dueFree("now a ninth", 3, false);
         dueFree("an eighth from day 97 to 103", 10, true);
+        booked('s', 50, 40, 4, 0, 0);
+        booked('s', 150, 40, 4, 0, 0);
+        dueFree("a ninth still, whatever is far ahead and behind", 3, false);
     }
 
     private void eightInSevenDaysAround() {

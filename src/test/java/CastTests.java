@@ -23,6 +23,7 @@ final class CastTests extends Promises {
         onePartOfAWork();
         costsLeast();
         castYet();
+        castYetForNothing();
         fewestOthers();
         othersOfAllTheWork();
         othersByThen();
@@ -175,11 +176,25 @@ final class CastTests extends Promises {
         due("so another one", () -> book.castAt(2, 1, 0), 3);
         concert(20, 1, 0);
         due("who is cast in the first costs nothing in the second", () -> book.book(3), 19);
-        book.unbook(2);
-        book.unbook(1);
-        book.away(3, 3);
-        book.away(3, 1);
-        due("as dear, with as many others: the first", () -> book.castAt(3, 1, 0), 2);
+    }
+
+    private void castYetForNothing() {
+        terms("the wages of players who are not cast yet in this service,");
+        halls(1);
+        book.addPlayer(0, 2, 10);
+        book.addPlayer(1, 0, 10);
+        work(10, 1);
+        work(10, 0, 1);
+        bookedConcert(5, 0, 1);
+        due("a doubling as dear as another wage, as many others: the first", () -> book.castAt(0, 1, 0), 0);
+        due("one wage, one doubling", () -> book.cost(0), 20);
+        work(10, 1);
+        bookedConcert(10, 0);
+        book.addPlayer(0, 0, 1);
+        book.refuse(2, 0, true);
+        bookedConcert(15, 0, 2);
+        due("who is cast costs less than the least wage, with however many others", () -> book.castAt(2, 2, 0), 0);
+        due("one wage", () -> book.cost(2), 10);
     }
 
     private void fewestOthers() {

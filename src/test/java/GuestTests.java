@@ -33,6 +33,7 @@ final class GuestTests extends Promises {
         cancelForOneWhoCouldBeEngaged();
         cancelForNone();
         cancelAmongOthers();
+        cancelOfSixWorks();
         cancelChangesNoCasts();
         cancelUnbooked();
         guestOf();
@@ -448,6 +449,24 @@ final class GuestTests extends Promises {
         due("the third work's does", () -> book.services(2), 1);
         due("the last one's does not", () -> book.services(3), 0);
         due("two are paid", () -> book.cost(0), 22);
+    }
+
+    private void cancelOfSixWorks() {
+        terms("and works with a soloist are left out.");
+        halls(1);
+        players(10, 20);
+        for (int number = 0; number < 6; number++) {
+            work(10, 1 + number % 2);
+            book.setSolo(number, number % 2 == 1);
+        }
+        guests(4095);
+        concert(5, 0, 1, 2, 3, 4, 5);
+        book.engage(0, 0);
+        due("two players for six works", () -> book.book(0), 40);
+        due("none instead", () -> book.cancelGuest(0), -1);
+        due("one player for three", () -> book.cost(0), 10);
+        due("the last one is left out", () -> book.stands(0, 5), false);
+        due("the last but one stands", () -> book.castAt(0, 4, 0), 0);
     }
 
     private void cancelChangesNoCasts() {

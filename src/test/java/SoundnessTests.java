@@ -23,6 +23,7 @@ final class SoundnessTests extends Promises {
         halls(2);
         players(10, 10);
         book.addPlayer(1, 0, 10);
+        players(999);
         soloWork(10, 2, 1);
         work(10, 1);
         book.addGuest(10, 1);
@@ -51,9 +52,12 @@ final class SoundnessTests extends Promises {
         long second = LAST_PART_SHIFT + 4;
         dueOfCast("the first player twice", cast & ~(PLAYER << second), false);
         dueOfCast("the second player twice", cast | 1L << first, false);
-        dueOfCast("who cannot play it", cast & ~(PLAYER << LAST_PART_SHIFT), false);
-        dueOfCast("none of the players", cast | PLAYER << LAST_PART_SHIFT, false);
-        dueOfCast("none of the players, the next number", cast | 3L << LAST_PART_SHIFT, false);
+        long withoutLast = cast & ~(PLAYER << LAST_PART_SHIFT);
+        dueOfCast("who cannot play it and has no other part", withoutLast | 3L << LAST_PART_SHIFT, false);
+        dueOfCast("who cannot play it and has another part", withoutLast, false);
+        dueOfCast("none of the players", withoutLast | PLAYER << LAST_PART_SHIFT, false);
+        dueOfCast("none of the players, the next number", withoutLast | 4L << LAST_PART_SHIFT, false);
+        dueOfCast("who can play it and has no other part", cast & ~(PLAYER << second) | 3L << second, true);
         dueOfCast("the two the other way round", cast & ~(PLAYER << second) | 1L << first, true);
         put(0, "standing", 0);
         dueOfCast("what does not stand is not looked at", cast & ~(PLAYER << second), true);
