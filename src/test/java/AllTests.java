@@ -18,6 +18,7 @@ public final class AllTests {
         new FullWallTests(check).run();
         new SoundnessTests(check).run();
         new ModelTests(check).run();
+        new FaceTests(check).run();
         new LanguageTests(check).run();
         new DocumentTests(check).run();
         System.out.println(check.passes() + " passed, " + check.failures() + " failed");
